@@ -372,7 +372,6 @@ public final class BandPainter {
         final int words;
         final long[] bits;
 
-        /** Across, down and tall are 1 or more: the face has tested what they are made of. */
         Picture(int across, int down, int tall) {
             this.across = Math.max(1, across);
             this.down = Math.max(1, down);
@@ -574,7 +573,7 @@ public final class BandPainter {
                 return 0;
             }
             int alike = y;
-            while (blacks[alike] == UNKNOWN && isLikeAbove(alike)) {
+            while (alike >= PERIOD && blacks[alike] == UNKNOWN && isLikeAbove(alike)) {
                 alike -= PERIOD;
             }
             if (blacks[alike] == UNKNOWN) {
@@ -584,9 +583,9 @@ public final class BandPainter {
             return blacks[y];
         }
 
-        /** Whether a line, 0 .. lines - 1, has the dots of the one that lies a PERIOD above it. */
+        /** Whether a line has the dots of the one that lies a PERIOD above it. */
         private boolean isLikeAbove(int y) {
-            if (y < PERIOD) {
+            if (!isWithin(PERIOD, y, lines - 1)) {
                 return false;
             }
             for (int at = y; at > y - PERIOD; at--) {

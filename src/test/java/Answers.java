@@ -1,4 +1,4 @@
-/** Compares answers with the ones that are due, prints those that differ, and ends with exit code 1 if there were any. */
+/** Compares answers with the ones that are due and prints those that differ; with one of these the exit code is 1. */
 final class Answers {
     private int wrong = 0;
     private int asked = 0;

@@ -1,4 +1,7 @@
-/** Runs of up to 512 calls, drawn from a written seed, on the class and on the plain sheet side by side. */
+/**
+ * Runs of calls, drawn from a written seed, on the class and on the plain sheet side by side. At the end of a run the
+ * whole sheet is told; that may go beyond the 512 calls for which an object is made, but this class bears it.
+ */
 public final class RandomRunsTest {
     private static final int[] ODD = {Integer.MIN_VALUE, Integer.MIN_VALUE + 1, -10001, -10000, -1, 0, 1, 2, 5099,
         5100, 9999, 10000, 10001, Integer.MAX_VALUE - 1, Integer.MAX_VALUE};
