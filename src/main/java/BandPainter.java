@@ -315,7 +315,7 @@ public final class BandPainter {
             }
         }
 
-        /** For lines of the sheet, which are never below 0. */
+        /** The ink along line y, for each 64 dots of it. */
         long dotsAt(int y) {
             return lines[y & PERIOD - 1];
         }
