@@ -27,65 +27,33 @@ public final class PromisesTest {
         A.end();
     }
 
-    /** The first dots of a word, written as 1 and 0. */
-    private static long dots(String first) {
-        long word = 0L;
-        for (int i = 0; i < first.length(); i++) {
-            if (first.charAt(i) == '1') {
-                word |= 1L << 63 - i;
-            }
-        }
-        return word;
-    }
-
-    /** The lines from y on as they are due, written as 1 and 0. */
-    private static void dueLines(BandPainter x, int y, String... lines) {
-        for (int i = 0; i < lines.length; i++) {
-            A.due("line(" + (y + i) + ", 0)", dots(lines[i]), x.line(y + i, 0));
-        }
-    }
-
-    private static void dueLooks(BandPainter x, int... looks) {
-        for (int which = 0; which < looks.length; which++) {
-            A.due("look(" + which + ")", looks[which], x.look(which));
-        }
-    }
-
-    /** A shape of three across and two down: 110 over 001. */
-    private static int smallShape(BandPainter x) {
-        int number = x.shape(3, 2);
-        x.draw(number, 0, dots("110"), 0L);
-        x.draw(number, 1, dots("001"), 0L);
-        return number;
-    }
-
     private static void newObject() {
         A.part("promise 1, a new object");
-        dueLooks(new BandPainter(70, 20, 3), 70, 20, 3, 0, 0, 0, 0, 0, 0, 0, 0, 0);
-        dueLooks(new BandPainter(0, 0, 0), 1, 1, 1);
-        dueLooks(new BandPainter(-1, -1, -1), 1, 1, 1);
-        dueLooks(new BandPainter(LOWEST, LOWEST, LOWEST), 1, 1, 1);
-        dueLooks(new BandPainter(5100, 5100, 5100), 5100, 5100, 5100);
-        dueLooks(new BandPainter(5101, 5101, 5101), 5100, 5100, 5100);
-        dueLooks(new BandPainter(HIGHEST, HIGHEST, HIGHEST), 5100, 5100, 5100);
-        dueLooks(new BandPainter(10, 20, 20), 10, 20, 20);
-        dueLooks(new BandPainter(10, 20, 21), 10, 20, 20);
-        dueLooks(new BandPainter(30, 2, 15), 30, 2, 2);
+        A.dueLooks(new BandPainter(70, 20, 3), 70, 20, 3, 0, 0, 0, 0, 0, 0, 0, 0, 0);
+        A.dueLooks(new BandPainter(0, 0, 0), 1, 1, 1);
+        A.dueLooks(new BandPainter(-1, -1, -1), 1, 1, 1);
+        A.dueLooks(new BandPainter(LOWEST, LOWEST, LOWEST), 1, 1, 1);
+        A.dueLooks(new BandPainter(5100, 5100, 5100), 5100, 5100, 5100);
+        A.dueLooks(new BandPainter(5101, 5101, 5101), 5100, 5100, 5100);
+        A.dueLooks(new BandPainter(HIGHEST, HIGHEST, HIGHEST), 5100, 5100, 5100);
+        A.dueLooks(new BandPainter(10, 20, 20), 10, 20, 20);
+        A.dueLooks(new BandPainter(10, 20, 21), 10, 20, 20);
+        A.dueLooks(new BandPainter(30, 2, 15), 30, 2, 2);
 
         BandPainter x = new BandPainter(10, 4, 2);
         A.due("count(0, 3)", 0, x.count(0, 3));
         A.due("top(0)", -1, x.top(0));
         A.due("rule over all", true, x.rule(-10, -10, 100, 100));
-        dueLines(x, 0, "1111111111", "1111111111", "1111111111", "1111111111", "");
+        A.dueLines(x, 0, "1111111111", "1111111111", "1111111111", "1111111111", "");
 
         A.part("promise 1, what is not opaque");
         BandPainter z = new BandPainter(10, 4, 2);
         z.rule(0, 0, 10, 1);
         z.row(0, 0, 1, 4, 0L);
-        dueLines(z, 0, "1111111111");
+        A.dueLines(z, 0, "1111111111");
         z.ink(1, 0);
         z.row(0, 0, 1, 4, -1L);
-        dueLines(z, 0, "1111111111");
+        A.dueLines(z, 0, "1111111111");
 
         A.part("promise 1, a band changes nothing of what is told");
         for (int band = 0; band <= 41; band += 3) {
@@ -145,7 +113,7 @@ public final class PromisesTest {
         int narrow = x.shape(3, 2);
         A.due("draw with dots that there are not", true, x.draw(narrow, 0, -1L, -1L));
         A.due("of(0, 2)", 3, x.of(narrow, 2));
-        A.due("draw anew", true, x.draw(narrow, 0, dots("1011"), -1L));
+        A.due("draw anew", true, x.draw(narrow, 0, Answers.dots("1011"), -1L));
         A.due("of(0, 2)", 2, x.of(narrow, 2));
         A.due("draw(0, -1, ..)", false, x.draw(narrow, -1, -1L, -1L));
         A.due("draw(0, 2, ..)", false, x.draw(narrow, 2, -1L, -1L));
@@ -164,19 +132,19 @@ public final class PromisesTest {
             A.due("of(.., 2) for " + w + " across", w, x.of(number, 2));
         }
         int wide = x.shape(70, 1);
-        x.draw(wide, 0, dots("1"), dots("0000011"));
+        x.draw(wide, 0, Answers.dots("1"), Answers.dots("0000011"));
         A.due("of(.., 2)", 2, x.of(wide, 2));
         A.due("stamp", true, x.stamp(wide, 0, 5));
-        A.due("line(5, 0)", dots("1"), x.line(5, 0));
-        A.due("line(5, 1)", dots("000001"), x.line(5, 1));
+        A.due("line(5, 0)", Answers.dots("1"), x.line(5, 0));
+        A.due("line(5, 1)", Answers.dots("000001"), x.line(5, 1));
         A.due("draw of a stamped one", false, x.draw(wide, 0, -1L, -1L));
         A.due("of(.., 2)", 2, x.of(wide, 2));
         A.due("count(0, 9)", 2, x.count(0, 9));
         A.due("draw of another one", true, x.draw(narrow, 1, -1L, -1L));
         x.eject();
-        A.due("draw after eject", true, x.draw(wide, 0, dots("111"), 0L));
+        A.due("draw after eject", true, x.draw(wide, 0, Answers.dots("111"), 0L));
         x.stamp(wide, 0, 5);
-        dueLines(x, 5, "111");
+        A.dueLines(x, 5, "111");
     }
 
     private static void ink() {
@@ -202,7 +170,7 @@ public final class PromisesTest {
         x.ink(0, 0);
         x.rule(0, 0, 4, 1);
         x.ink(1, 0);
-        dueLines(x, 0, "1111");
+        A.dueLines(x, 0, "1111");
     }
 
     private static void shades() {
@@ -218,9 +186,9 @@ public final class PromisesTest {
         BandPainter x = new BandPainter(80, 40, 1);
         x.ink(2, 1);
         x.rule(0, 0, 80, 40);
-        dueLines(x, 8, "1000000010000000100000001000000010000000100000001000000010000000", "", "", "", "", "", "", "",
+        A.dueLines(x, 8, "1000000010000000100000001000000010000000100000001000000010000000", "", "", "", "", "", "", "",
                 "1000000010000000100000001000000010000000100000001000000010000000");
-        A.due("line(8, 1)", dots("1000000010000000"), x.line(8, 1));
+        A.due("line(8, 1)", Answers.dots("1000000010000000"), x.line(8, 1));
         // D(1, 1) = 16 is the 17th from below: a shade with 16 has it not, one with 17 has it.
         int[][] edges = {{25, 0}, {26, 1}};
         for (int[] it : edges) {
@@ -266,8 +234,8 @@ public final class PromisesTest {
         x.rule(0, 0, 128, 64);
         String four = sixteen + sixteen + sixteen + sixteen;
         for (int y = v; y < 64; y += 16) {
-            A.due("hatch " + value + ": line(" + y + ", 0)", dots(four), x.line(y, 0));
-            A.due("hatch " + value + ": line(" + y + ", 1)", dots(four), x.line(y, 1));
+            A.due("hatch " + value + ": line(" + y + ", 0)", Answers.dots(four), x.line(y, 0));
+            A.due("hatch " + value + ": line(" + y + ", 1)", Answers.dots(four), x.line(y, 1));
         }
     }
 
@@ -284,8 +252,8 @@ public final class PromisesTest {
             A.due("look(9)", source ? 1 : 0, x.look(9));
             A.due("look(10)", ink ? 1 : 0, x.look(10));
             x.ink(3, 4);
-            x.row(0, 1, 1, 4, dots("1100"));
-            dueLines(x, 0, "1111111111", due[k], "1111111111");
+            x.row(0, 1, 1, 4, Answers.dots("1100"));
+            A.dueLines(x, 0, "1111111111", due[k], "1111111111");
         }
         BandPainter x = new BandPainter(10, 1, 1);
         x.mode(true, true);
@@ -295,10 +263,10 @@ public final class PromisesTest {
         x.mode(false, false);
         A.due("look(9)", 0, x.look(9));
         A.due("look(10)", 0, x.look(10));
-        dueLines(x, 0, "1100011111");
+        A.dueLines(x, 0, "1100011111");
         x.ink(0, 0);
-        x.row(1, 0, 1, 3, dots("001"));
-        dueLines(x, 0, "1101011111");
+        x.row(1, 0, 1, 3, Answers.dots("001"));
+        A.dueLines(x, 0, "1101011111");
     }
 
     private static void turn() {
@@ -321,12 +289,12 @@ public final class PromisesTest {
         };
         for (int k = 0; k < 4; k++) {
             BandPainter z = new BandPainter(10, 10, 1);
-            int number = smallShape(z);
+            int number = Answers.smallShape(z);
             z.turn(k);
             z.stamp(number, 4, 3);
             z.turn(0);
             A.part("promise 6, turn " + k);
-            dueLines(z, 0, due[k]);
+            A.dueLines(z, 0, due[k]);
         }
         String[][] rules = {
             {"", "", "", "0000111", "0000111", "", ""},
@@ -339,7 +307,7 @@ public final class PromisesTest {
             z.turn(k);
             z.rule(4, 3, 3, 2);
             A.part("promise 6, a rule by turn " + k);
-            dueLines(z, 0, rules[k]);
+            A.dueLines(z, 0, rules[k]);
         }
     }
 
@@ -351,10 +319,10 @@ public final class PromisesTest {
         A.due("clip(0, 3, 9, 2)", false, x.clip(0, 3, 9, 2));
         A.due("clip(HIGHEST, 0, LOWEST, 9)", false, x.clip(HIGHEST, 0, LOWEST, 9));
         x.rule(0, 0, 10, 6);
-        dueLines(x, 0, "", "00111", "00111", "00111", "", "");
+        A.dueLines(x, 0, "", "00111", "00111", "00111", "", "");
         A.due("clip(9, 5, 9, 5)", true, x.clip(9, 5, 9, 5));
         x.rule(0, 0, 10, 6);
-        dueLines(x, 0, "", "00111", "00111", "00111", "", "0000000001");
+        A.dueLines(x, 0, "", "00111", "00111", "00111", "", "0000000001");
         A.due("a clip beside the sheet", true, x.clip(10, 0, 20, 5));
         x.rule(0, 0, 10, 6);
         A.due("a clip above the sheet", true, x.clip(LOWEST, LOWEST, HIGHEST, -1));
@@ -370,14 +338,14 @@ public final class PromisesTest {
         x.rule(0, 0, 10, 1);
         x.mode(true, true);
         x.clip(3, 0, 5, 0);
-        x.row(0, 0, 1, 10, dots("0000100000"));
-        dueLines(x, 0, "1110101111");
+        x.row(0, 0, 1, 10, Answers.dots("0000100000"));
+        A.dueLines(x, 0, "1110101111");
     }
 
     private static void stamp() {
         A.part("promise 8, stamp");
         BandPainter x = new BandPainter(10, 5, 1);
-        int number = smallShape(x);
+        int number = Answers.smallShape(x);
         int[][] wrong = {{1, 0, 0}, {-1, 0, 0}, {LOWEST, 0, 0}, {HIGHEST, 0, 0}, {0, 10001, 0}, {0, -10001, 0},
             {0, 0, 10001}, {0, 0, -10001}, {0, LOWEST, 0}, {0, 0, HIGHEST}};
         for (int[] it : wrong) {
@@ -386,12 +354,12 @@ public final class PromisesTest {
         A.due("of(0, 3)", 0, x.of(number, 3));
         A.due("look(3)", 0, x.look(3));
         A.due("stamp(0, 2, 1)", true, x.stamp(number, 2, 1));
-        dueLines(x, 0, "", "0011", "00001", "", "");
+        A.dueLines(x, 0, "", "0011", "00001", "", "");
         A.due("of(0, 3)", 1, x.of(number, 3));
         A.due("stamp(0, -1, -1)", true, x.stamp(number, -1, -1));
-        dueLines(x, 0, "01", "0011", "00001", "", "");
+        A.dueLines(x, 0, "01", "0011", "00001", "", "");
         A.due("stamp(0, 9, 4)", true, x.stamp(number, 9, 4));
-        dueLines(x, 4, "0000000001");
+        A.dueLines(x, 4, "0000000001");
         int[][] far = {{10000, 0}, {-10000, 0}, {0, 10000}, {0, -10000}};
         for (int[] it : far) {
             A.due("stamp(0, " + it[0] + ", " + it[1] + ")", true, x.stamp(number, it[0], it[1]));
@@ -401,7 +369,7 @@ public final class PromisesTest {
 
         A.part("promise 8, a stamp off the sheet is a stamp");
         x = new BandPainter(10, 5, 1);
-        number = smallShape(x);
+        number = Answers.smallShape(x);
         x.stamp(number, 5000, 5000);
         A.due("of(0, 3)", 1, x.of(number, 3));
         A.due("draw", false, x.draw(number, 0, 0L, 0L));
@@ -431,12 +399,12 @@ public final class PromisesTest {
         A.due("look(3)", 0, x.look(3));
         A.due("count(0, 4)", 0, x.count(0, 4));
         A.due("rule(2, 1, 3, 2)", true, x.rule(2, 1, 3, 2));
-        dueLines(x, 0, "", "00111", "00111", "", "");
+        A.dueLines(x, 0, "", "00111", "00111", "", "");
         A.due("rule(-9999, 4, 10000, 1)", true, x.rule(-9999, 4, 10000, 1));
         A.due("rule(9, -10000, 1, 10000)", true, x.rule(9, -10000, 1, 10000));
-        dueLines(x, 0, "", "00111", "00111", "", "1");
+        A.dueLines(x, 0, "", "00111", "00111", "", "1");
         A.due("rule(9, -9999, 1, 10000)", true, x.rule(9, -9999, 1, 10000));
-        dueLines(x, 0, "0000000001", "00111", "00111", "", "1");
+        A.dueLines(x, 0, "0000000001", "00111", "00111", "", "1");
         A.due("rule(10000, 10000, 10000, 10000)", true, x.rule(10000, 10000, 10000, 10000));
         A.due("look(3)", 5, x.look(3));
         A.due("look(4)", 0, x.look(4));
@@ -457,11 +425,11 @@ public final class PromisesTest {
         }
         A.due("look(3)", 0, x.look(3));
         A.due("look(4)", 0, x.look(4));
-        A.due("row(1, 1, 1, 5, ..)", true, x.row(1, 1, 1, 5, dots("1010111")));
-        dueLines(x, 0, "", "010101", "");
+        A.due("row(1, 1, 1, 5, ..)", true, x.row(1, 1, 1, 5, Answers.dots("1010111")));
+        A.dueLines(x, 0, "", "010101", "");
         A.due("look(4)", 1, x.look(4));
-        A.due("row(2, 3, 3, 3, ..)", true, x.row(2, 3, 3, 3, dots("101")));
-        dueLines(x, 2, "", "00111000111", "00111000111", "00111000111", "");
+        A.due("row(2, 3, 3, 3, ..)", true, x.row(2, 3, 3, 3, Answers.dots("101")));
+        A.dueLines(x, 2, "", "00111000111", "00111000111", "00111000111", "");
         A.due("look(4)", 2, x.look(4));
         int[][] bytes = {{8, 1}, {9, 2}, {16, 2}, {17, 3}, {57, 8}, {64, 8}};
         int sum = 2;
@@ -494,7 +462,7 @@ public final class PromisesTest {
     private static void eject() {
         A.part("promise 11, eject");
         BandPainter x = new BandPainter(40, 30, 4);
-        int number = smallShape(x);
+        int number = Answers.smallShape(x);
         x.ink(3, 2);
         x.mode(true, true);
         x.turn(3);
@@ -506,7 +474,7 @@ public final class PromisesTest {
         A.due("look(4)", 2, x.look(4));
         A.due("top(0)", 7, x.top(0));
         x.eject();
-        dueLooks(x, 40, 30, 4, 0, 0, 1, 2, 3, 2, 1, 1, 3);
+        A.dueLooks(x, 40, 30, 4, 0, 0, 1, 2, 3, 2, 1, 1, 3);
         A.due("count(0, 29)", 0, x.count(0, 29));
         A.due("top(0)", -1, x.top(0));
         A.due("line(7, 0)", 0L, x.line(7, 0));
@@ -519,7 +487,7 @@ public final class PromisesTest {
 
         A.part("promise 11, clip, turn and ink stay");
         x.stamp(number, 8, 8);
-        dueLines(x, 7, "", "00000001", "00000001", "00000001", "");
+        A.dueLines(x, 7, "", "00000001", "00000001", "00000001", "");
         A.due("draw of a stamped one", false, x.draw(number, 0, 0L, 0L));
         A.due("look(3)", 1, x.look(3));
         x.eject();
@@ -532,7 +500,7 @@ public final class PromisesTest {
         BandPainter x = new BandPainter(70, 3, 1);
         x.rule(0, 0, 200, 3);
         A.due("line(0, 0)", -1L, x.line(0, 0));
-        A.due("line(2, 1)", dots("111111"), x.line(2, 1));
+        A.due("line(2, 1)", Answers.dots("111111"), x.line(2, 1));
         int[][] none = {{-1, 0}, {3, 0}, {0, -1}, {0, 2}, {LOWEST, 0}, {HIGHEST, 0}, {0, LOWEST}, {0, HIGHEST},
             {LOWEST, LOWEST}, {0, 1 << 26}, {0, -(1 << 26)}};
         for (int[] it : none) {
@@ -554,10 +522,10 @@ public final class PromisesTest {
         x.mode(true, true);
         x.rule(0, 0, 12, 1);
         x.row(2, 0, 1, 6, 0L);
-        x.row(4, 0, 1, 2, dots("10"));
+        x.row(4, 0, 1, 2, Answers.dots("10"));
         x.ink(1, 0);
         x.rule(10, 0, 1, 1);
-        dueLines(x, 0, "110010001101");
+        A.dueLines(x, 0, "110010001101");
     }
 
     private static void black() {
@@ -661,10 +629,10 @@ public final class PromisesTest {
         x.ink(2, 33);
         x.mode(true, false);
         x.turn(2);
-        dueLooks(x, 100, 50, 12, 4, 4, 2, 31, 2, 33, 1, 0, 2, -1, -1);
+        A.dueLooks(x, 100, 50, 12, 4, 4, 2, 31, 2, 33, 1, 0, 2, -1, -1);
         x.mode(false, true);
         x.ink(1, 9);
-        dueLooks(x, 100, 50, 12, 4, 4, 2, 31, 1, 0, 0, 1, 2, -1, -1);
+        A.dueLooks(x, 100, 50, 12, 4, 4, 2, 31, 1, 0, 0, 1, 2, -1, -1);
         int[] none = {-1, 12, LOWEST, HIGHEST};
         for (int which : none) {
             A.due("look(" + which + ")", -1, x.look(which));
