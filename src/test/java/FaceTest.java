@@ -38,6 +38,10 @@ public final class FaceTest {
 
     public static void main(String[] args) throws IOException {
         face();
+        measures(BandPainter.class);
+        for (Class<?> inside : BandPainter.class.getDeclaredClasses()) {
+            measures(inside);
+        }
         source();
         A.end();
     }
@@ -53,8 +57,6 @@ public final class FaceTest {
         }
         for (Field f : it.getDeclaredFields()) {
             addIfSeen(seen, f, f.getType().getSimpleName() + " " + f.getName());
-            A.due(f.getName() + " is final if static", true,
-                    !Modifier.isStatic(f.getModifiers()) || Modifier.isFinal(f.getModifiers()));
         }
         for (Method m : it.getDeclaredMethods()) {
             String thrown = m.getExceptionTypes().length == 0 ? "" : list(m.getExceptionTypes(), " throws ", "");
@@ -74,6 +76,26 @@ public final class FaceTest {
                     Modifier.isStatic(inside.getModifiers()) && !Modifier.isPublic(inside.getModifiers()));
         }
         A.due("at most twelve classes", true, it.getDeclaredClasses().length < 12);
+    }
+
+    private static void measures(Class<?> it) {
+        A.part("the measures of " + it.getSimpleName());
+        int held = 0;
+        for (Field f : it.getDeclaredFields()) {
+            held += Modifier.isStatic(f.getModifiers()) ? 0 : 1;
+            A.due(f.getName() + " is final if static", true,
+                    !Modifier.isStatic(f.getModifiers()) || Modifier.isFinal(f.getModifiers()));
+        }
+        A.due("at most twenty fields", true, held <= 20);
+        for (Constructor<?> c : it.getDeclaredConstructors()) {
+            A.due("a constructor has at most seven parameters", true, c.getParameterCount() <= 7);
+        }
+        for (Method m : it.getDeclaredMethods()) {
+            A.due(m.getName() + " has at most seven parameters", true, m.getParameterCount() <= 7);
+            boolean itsOwn = m.getName().equals("equals") || m.getName().equals("hashCode")
+                    || m.getName().equals("toString");
+            A.due(m.getName() + " is one that no object has of its own", false, itsOwn);
+        }
     }
 
     private static void addIfSeen(Set<String> seen, Member member, String text) {
@@ -97,6 +119,8 @@ public final class FaceTest {
             A.due("contains '" + word + "'", false, text.contains(word));
         }
         for (String line : text.split("\n")) {
+            A.due("a line without tabs, of at most 120 characters: " + line, true,
+                    line.length() <= 120 && line.indexOf('\t') < 0);
             if (line.startsWith("import ")) {
                 A.dueText("import", "import java.util.Arrays;", line);
             }
